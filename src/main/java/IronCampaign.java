@@ -543,7 +543,7 @@ public final class IronCampaign {
             for (int f = 0; f < MOST_FORGES; f++) wants[f] = forges.get(f, FORGE_WANT);
             readHopes(forges);
             bestPay = NONE;
-            place(forges, 0, 0);
+            place(this, forges, 0, 0);
         }
 
         private void readPigs(Table pigs) {
@@ -575,22 +575,23 @@ public final class IronCampaign {
         }
 
         // Of like ways the first found stays, so no later one that only equals it is followed.
-        private void place(Table forges, int lot, int pay) {
-            if (lot > MOST_LOTS || pay + hope[lot] <= bestPay) return;
-            if (lot >= lots) {
-                bestPay = pay;
-                for (int i = 0; i < lots; i++) best[i] = way[i];
+        private static void place(Sale s, Table forges, int lot, int pay) {
+            if (lot > MOST_LOTS || pay + s.hope[lot] <= s.bestPay) return;
+            if (lot >= s.lots) {
+                s.bestPay = pay;
+                for (int i = 0; i < s.lots; i++) s.best[i] = s.way[i];
                 return;
             }
+            int weight = s.weight[lot];
             for (int f = 0; f < forges.rows && f < MOST_FORGES; f++) {
-                if (!canTake(forges, f, lot)) continue;
-                way[lot] = f;
-                wants[f] -= weight[lot];
-                place(forges, lot + 1, pay + weight[lot] * forges.get(f, FORGE_PRICE));
-                wants[f] += weight[lot];
+                if (!s.canTake(forges, f, lot)) continue;
+                s.way[lot] = f;
+                s.wants[f] -= weight;
+                place(s, forges, lot + 1, pay + weight * forges.get(f, FORGE_PRICE));
+                s.wants[f] += weight;
             }
-            way[lot] = NONE;
-            place(forges, lot + 1, pay);
+            s.way[lot] = NONE;
+            place(s, forges, lot + 1, pay);
         }
     }
 
@@ -622,7 +623,7 @@ public final class IronCampaign {
         // A search that finds no PLAN leaves the latest one as it is.
         int settle(Table paces, int wear, int coal) {
             mostIron = NONE;
-            goOn(paces, 0, 0, wear, coal);
+            goOn(this, paces, 0, 0, wear, coal);
             if (mostIron == NONE) return NONE;
             planned = length;
             for (int i = 0; i < length; i++) best[i] = found[i];
@@ -630,20 +631,20 @@ public final class IronCampaign {
         }
 
         // Of like ways the first found stays, so no later one that only equals it is followed.
-        private void goOn(Table paces, int i, int iron, int wearLeft, int coalLeft) {
-            if (i > MOST_PLANNED || iron + hope[i] <= mostIron) return;
-            if (i >= length) {
-                mostIron = iron;
-                for (int k = 0; k < length; k++) found[k] = way[k];
+        private static void goOn(Planner s, Table paces, int i, int iron, int wearLeft, int coalLeft) {
+            if (i > MOST_PLANNED || iron + s.hope[i] <= s.mostIron) return;
+            if (i >= s.length) {
+                s.mostIron = iron;
+                for (int k = 0; k < s.length; k++) s.found[k] = s.way[k];
                 return;
             }
-            int coal = coalLeft + wood[i];
-            for (int p = 0; p < PACES && p <= water[i]; p++) {
+            int coal = coalLeft + s.wood[i];
+            for (int p = 0; p < PACES && p <= s.water[i]; p++) {
                 int wearAfter = wearLeft - paces.get(p, PACE_WEAR);
                 int coalAfter = coal - paces.get(p, PACE_COAL);
                 if (wearAfter < 0 || coalAfter < 0) continue;
-                way[i] = p;
-                goOn(paces, i + 1, iron + paces.get(p, PACE_IRON), wearAfter, coalAfter);
+                s.way[i] = p;
+                goOn(s, paces, i + 1, iron + paces.get(p, PACE_IRON), wearAfter, coalAfter);
             }
         }
     }

@@ -8,11 +8,14 @@ public final class FurnaceTest {
         meltNeedsTenTimesItsOre();
         eachMeltCoolsTheNext();
         sortCountsFluxAndHeat();
+        sortOneBelowItsHeats();
         richnessCountsAsItIsThen();
         chillIsAllSlag();
         hearthSpills();
         hearthRefuses();
+        wearIsHeatByHundredCut();
         wearPutsItOut();
+        firstLifeIsAThousand();
         lifeMadeLessCountsAsATickEnds();
         tickRefuses();
         tickEndsAtFiveThousand();
@@ -125,9 +128,7 @@ public final class FurnaceTest {
     /** HEAT 360, then one TICK more that burns b: HEAT 320 + 8 b. */
     private static IronCampaign heatedTo(int b) {
         IronCampaign x = Scenes.heated(3);
-        x.blast(b);
-        x.charge(b, 0, 0, 0);
-        x.tick(1);
+        Due.is("HEAT", heatBehindBurning(x, b), 320 + 8 * b);
         return x;
     }
 
@@ -143,6 +144,31 @@ public final class FurnaceTest {
         Due.is("HEAT 692", sortAfter(heatedToSevenHundred(18 + 1), 4, 1), 2);
     }
 
+    private static void sortOneBelowItsHeats() {
+        IronCampaign x = Scenes.stocked();
+        x.blast(20);
+        x.charge(40, 0, 0, 0);
+        x.charge(20, 0, 5, 0);
+        x.tick(3);
+        Due.is("HEAT 399", heatBehindBurning(x, 13), 399);
+        Due.is("SORT at 399", sortAfter(x, 4, 1), 1);
+
+        IronCampaign y = Scenes.stocked();
+        y.blast(20);
+        y.charge(60, 0, 0, 0);
+        y.charge(40, 0, 1, 0);
+        y.tick(5);
+        Due.is("HEAT 699", heatBehindBurning(y, 18), 699);
+        Due.is("SORT at 699", sortAfter(y, 4, 1), 2);
+    }
+
+    private static int heatBehindBurning(IronCampaign x, int coal) {
+        x.blast(coal);
+        x.charge(coal, 0, 0, 0);
+        x.tick(1);
+        return x.about(0);
+    }
+
     private static IronCampaign heatedToSevenHundred(int lastBurn) {
         IronCampaign x = Scenes.stocked();
         x.blast(20);
@@ -150,10 +176,7 @@ public final class FurnaceTest {
         x.charge(40, 0, 4, 0);
         x.tick(5);
         Due.is("HEAT 480 less 20 and 120 more", x.about(0), 580);
-        x.blast(lastBurn);
-        x.charge(lastBurn, 0, 0, 0);
-        x.tick(1);
-        Due.is("HEAT", x.about(0), 540 + 8 * lastBurn);
+        Due.is("HEAT", heatBehindBurning(x, lastBurn), 540 + 8 * lastBurn);
         return x;
     }
 
@@ -235,6 +258,45 @@ public final class FurnaceTest {
         Due.is("THE HEARTH HOLDS as much as ahead", x.about(1), 18);
         Due.is("hearth(1, 1)", x.hearth(1, 1), 1);
         Due.is("hearth(500, 100000)", x.hearth(500, 100000), 1);
+    }
+
+    private static void wearIsHeatByHundredCut() {
+        IronCampaign x = Scenes.stocked();
+        for (int i = 0; i < 3; i++) x.charge(60, 0, 0, 0);
+        x.blast(20);
+        x.tick(6);
+        Due.is("WEAR at 720", x.about(3), 1 + 2 + 3 + 4 + 6 + 7);
+        x.blast(14);
+        x.tick(1);
+        Due.is("HEAT 792", x.about(0), 792);
+        Due.is("WEAR 7 more", x.about(3), 30);
+        x.blast(6);
+        x.tick(1);
+        Due.is("HEAT 800", x.about(0), 800);
+        Due.is("WEAR 8 more", x.about(3), 38);
+    }
+
+    private static void fill(IronCampaign x) {
+        while (x.about(5) < 12) x.charge(60, 0, 0, 0);
+    }
+
+    /** WEAR 40 at HEAT 960, then 101 TICKS of 9 and 5 of 10. */
+    private static void firstLifeIsAThousand() {
+        IronCampaign x = Scenes.stocked();
+        fill(x);
+        x.blast(20);
+        x.tick(8);
+        x.blast(5);
+        x.tick(50);
+        x.tick(50);
+        x.tick(1);
+        fill(x);
+        x.blast(20);
+        Due.is("tick(5)", x.tick(5), 5);
+        Due.is("WEAR one below", x.about(3), 999);
+        Due.is("not OUT", x.about(9), 0);
+        Due.is("one TICK goes", x.tick(50), 1);
+        Due.is("OUT", x.about(9), 1);
     }
 
     private static void wearPutsItOut() {

@@ -161,6 +161,8 @@ public final class PlanTest {
         Due.is("COAL short", x.plan(0, 1, 1000, 999), 300);
         Due.is("pace(0, 1000, 0, 0)", x.pace(0, 1000, 0, 0), 1);
         Due.is("PACE 0 makes IRON", x.plan(0, 6, 0, 0), 6000);
+        Due.is("pace(0, 0, 0, 0)", x.pace(0, 0, 0, 0), 1);
+        Due.is("PACE 0 makes none", x.plan(0, 6, 0, 0), 0);
     }
 
     private static void paceRefuses() {
