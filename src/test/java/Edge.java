@@ -30,7 +30,7 @@ final class Edge {
         sameFromNowOn(name, asked, scene.get());
     }
 
-    /** Compares what the digest tells, and then, by some fifty calls more, what it does not tell. */
+    /** Compares what the digest tells, and then, by some sixty calls more, what it does not tell. */
     static void sameFromNowOn(String after, IronCampaign x, IronCampaign twin) {
         Due.is("digest() after " + after, x.digest(), twin.digest());
         comparePlans(after, x, twin);
@@ -56,6 +56,15 @@ final class Edge {
             Due.is("WOOD" + month, x.plan(m, 1, 10000, 0), twin.plan(m, 1, 10000, 0));
         }
         Due.is("plan of nothing after " + after, x.plan(0, 1, 0, 0), twin.plan(0, 1, 0, 0));
+        for (int p = 1; p < 5; p++) comparePace(after, x, twin, p, 40 * p, 10 * p);
+    }
+
+    /** In the MONTHS of Scenes.busy so much WEAR and COAL is just enough for the PACE. */
+    private static void comparePace(String after, IronCampaign x, IronCampaign twin, int p, int wear, int coal) {
+        String pace = " of PACE " + p + " after " + after;
+        Due.is("IRON" + pace, x.plan(p, 1, wear, coal), twin.plan(p, 1, wear, coal));
+        Due.is("WEAR" + pace, x.plan(p, 1, wear - 1, 10000), twin.plan(p, 1, wear - 1, 10000));
+        Due.is("COAL" + pace, x.plan(p, 1, 10000, coal - 1), twin.plan(p, 1, 10000, coal - 1));
     }
 
     private static void compareTicks(String after, IronCampaign x, IronCampaign twin) {

@@ -42,7 +42,7 @@ public final class PlanEdgesTest {
         Edge.range("month", MONTH, new int[] {3, 2, 100}, 0, 0, 11);
         for (int told = 0; told < 12; told++) {
             IronCampaign x = new IronCampaign();
-            x.month(told, 1, 0);
+            Due.is("month(" + told + ", 1, 0)", x.month(told, 1, 0), 1);
             for (int m = 0; m < 12; m++) Due.is("month " + m, x.plan(m, 1, 10000, 10000), m == told ? 100 : 400);
         }
     }
@@ -82,6 +82,12 @@ public final class PlanEdgesTest {
     /** "PACES 0 .. 4", "What a PACE makes: 1. BAD." */
     private static void pacesAreFive() {
         Edge.range("pace", PACE, new int[] {2, 100, 100, 100}, 0, 0, 4);
+        for (int told = 0; told < 5; told++) {
+            IronCampaign x = new IronCampaign();
+            Due.is("pace(" + told + ", 1000, 0, 0)", x.pace(told, 1000, 0, 0), 1);
+            Due.is("PACE " + told + " makes the most", x.plan(0, 1, 0, 0), 1000);
+            paces(x, told);
+        }
     }
 
     /** "make so much IRON, WEAR, burn so much COAL a month (0 .. 1000 each" */
@@ -198,6 +204,13 @@ public final class PlanEdgesTest {
         x.month(0, 1, 399);
         Due.is("one short", x.plan(0, 2, 10000, 0), 400);
         Due.is("one more at first", x.plan(0, 2, 10000, 1), 500);
+        IronCampaign y = new IronCampaign();
+        for (int m = 0; m < 5; m++) y.month(m, m == 4 ? 4 : 0, 80);
+        Due.is("left over of each MONTH", y.plan(0, 5, 10000, 0), 400);
+        y.month(2, 0, 79);
+        y.pace(4, 999, 0, 400);
+        Due.holds("one short of all", y.plan(0, 5, 10000, 0) < 999);
+        Due.is("one more at first", y.plan(0, 5, 10000, 1), 999);
     }
 
     /** "the most IRON" */
@@ -208,6 +221,9 @@ public final class PlanEdgesTest {
         x.pace(0, 999, 0, 0);
         Due.is("nor the greatest PACE", x.plan(0, 2, 1000, 1000), 1999);
         paces(x, 0, 1);
+        x.month(1, 0, 0);
+        Due.is("nor from a MONTH with WATER alone", x.plan(0, 2, 1000, 1000), 1999);
+        paces(x, 1, 0);
     }
 
     /** "of like ones the first by PACES" */

@@ -81,7 +81,7 @@ final class Scenes {
     static IronCampaign busy() {
         IronCampaign x = new IronCampaign();
         for (int s = 0; s < 6; s++) x.buy(s, 9000 + 100 * s);
-        x.hearth(30, 200);
+        x.hearth(10, 200);
         x.blast(20);
         for (int i = 0; i < 3; i++) x.charge(60, 0, 0, 0);
         x.tick(9);
@@ -94,10 +94,10 @@ final class Scenes {
         x.charge(25, 1, 30, 5);
         x.charge(30, 2, 20, 9);
         x.rule(0, true, 60, 1);
-        x.rule(2, true, 12, 2);
+        x.rule(2, true, 9, 2);
         x.lose(0, 2);
         x.lose(1, 3);
-        for (int m = 0; m < 12; m++) x.month(m, m % 5, 70 * m);
+        for (int m = 0; m < 12; m++) x.month(m, m % 5, 50 * m);
         for (int p = 0; p < 5; p++) x.pace(p, 90 * p + 10, 40 * p, 60 * p);
         x.plan(2, 4, 700, 500);
         x.tick(1);

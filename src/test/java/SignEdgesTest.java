@@ -226,7 +226,9 @@ public final class SignEdgesTest {
             moveBlastNotBelowNought();
             tapWhatThereIs();
             actInOrder();
+            actEachForItself();
             actOnSignsThatWereSeen();
+            actOnWhatWasSeenThen();
             actAheadOfTheBurning();
             actAsATickBegins();
         }
@@ -397,6 +399,24 @@ public final class SignEdgesTest {
             Due.is("0 stays, then one more", z.about(11), 1);
         }
 
+        /** "they act in order, each of which the SIGN was seen ..": one that does not act holds up no other */
+        private static void actEachForItself() {
+            IronCampaign x = Scenes.heated(3);
+            x.rule(0, false, 0, 0);
+            x.rule(0, true, 0, 1);
+            x.rule(0, true, 1000, 0);
+            x.rule(0, true, 0, 1);
+            x.tick(1);
+            Due.is("the second and the fourth of four", x.about(11), 18);
+            IronCampaign y = Scenes.heated(3);
+            y.lose(1, 1);
+            y.tick(1);
+            y.rule(1, false, 1000, 1);
+            y.rule(0, true, 0, 1);
+            y.tick(1);
+            Due.is("behind one the SIGN of which was LOST", y.about(11), 19);
+        }
+
         /** "each of which the SIGN was seen behind the TICK ahead" */
         private static void actOnSignsThatWereSeen() {
             IronCampaign x = Scenes.stocked();
@@ -423,6 +443,26 @@ public final class SignEdgesTest {
             x.rule(0, false, 1000, 0);
             x.tick(50);
             return x.about(11);
+        }
+
+        /** "and is above (below) the limit then": what was done since does not count */
+        private static void actOnWhatWasSeenThen() {
+            IronCampaign x = Scenes.hot();
+            x.charge(20, 0, 20, 0);
+            x.tick(1);
+            x.rule(2, true, 5, 1);
+            x.rule(2, false, 5, 0);
+            x.tap();
+            x.tick(1);
+            Due.is("IRON 6 was seen, tapped by hand since", x.about(11), 19);
+            IronCampaign y = Scenes.hot();
+            y.charge(20, 0, 20, 0);
+            y.tick(1);
+            y.rule(2, true, 5, 2);
+            y.rule(2, true, 5, 1);
+            y.tick(1);
+            Due.is("IRON 6 was seen, tapped by a RULE since", y.about(11), 19);
+            Due.is("PIGS", y.count(1), 1);
         }
 
         /** "RULES first": BLAST as they left it burns in the same TICK */
