@@ -122,6 +122,9 @@ public final class ChargeEdgesTest {
         }
         Due.is("the 400th", x.charge(1, 0, 0, 0), 399);
         Due.is("the 401st, with room in THE COLUMN", x.charge(1, 0, 0, 0), FULL);
+        x.tick(1);
+        Due.is("the last came down", x.chargeAt(399, 0), 1);
+        Due.is("COAL burned, and no more", x.about(6), 400);
         Edge.refused("the 401st, of an empty COLUMN", () -> Scenes.allCharges(9), y -> y.charge(1, 0, 0, 0), FULL);
     }
 
