@@ -1,4 +1,5 @@
 import java.math.BigInteger;
+import java.util.function.Supplier;
 
 /** Promises 25 and 26 at their ends, and the ends of an object's use. Each test has its sentence above it. */
 public final class CountEdgesTest {
@@ -54,23 +55,43 @@ public final class CountEdgesTest {
         for (int what = 0; what < 6; what++) Due.is("count(" + what + ")", x.count(what), 0);
     }
 
-    /**
-     * The sum as the document tells it, by the calls that it names, without an end to its size. Of 400 CHARGES it asks
-     * more than 512 times; what is asked behind that is the object's telling alone, which this class keeps up.
-     */
-    private static long sum(IronCampaign x) {
+    /** Asks like objects by turns, as 400 CHARGES have more to tell than one object's 512 calls. */
+    private static final class Asked {
+        private final Supplier<IronCampaign> scene;
+        private IronCampaign now;
+        private int calls = 0;
+
+        Asked(Supplier<IronCampaign> scene) {
+            this.scene = scene;
+        }
+
+        IronCampaign x() {
+            if (calls++ % 50 == 0) now = scene.get();
+            return now;
+        }
+    }
+
+    /** The sum as the document tells it, by the calls that it names, without an end to its size. */
+    private static long sum(Supplier<IronCampaign> scene) {
+        Asked asked = new Asked(scene);
+        int charges = asked.x().count(0);
+        int pigs = asked.x().count(1);
         BigInteger h = BigInteger.valueOf(199);
-        for (int what = 0; what < 6; what++) h = next(h, x.count(what));
-        for (int what = 0; what < 12; what++) h = next(h, x.about(what));
-        for (int s = 0; s < 6; s++) h = next(h, x.store(s));
-        for (int i = 0; x.chargeAt(i, 0) != IronCampaign.NONE; i++) {
-            for (int what = 0; what < 7; what++) h = next(h, x.chargeAt(i, what));
+        for (int what = 0; what < 6; what++) h = next(h, asked.x().count(what));
+        for (int what = 0; what < 12; what++) h = next(h, asked.x().about(what));
+        for (int s = 0; s < 6; s++) h = next(h, asked.x().store(s));
+        for (int i = 0; i < charges; i++) {
+            for (int what = 0; what < 7; what++) h = next(h, asked.x().chargeAt(i, what));
         }
-        for (int i = 0; x.pig(i, 0) != IronCampaign.NONE; i++) {
-            for (int what = 0; what < 6; what++) h = next(h, x.pig(i, what));
+        for (int i = 0; i < pigs; i++) {
+            for (int what = 0; what < 6; what++) h = next(h, asked.x().pig(i, what));
         }
-        for (int s = 0; s < 3; s++) h = next(h, x.sign(s));
+        for (int s = 0; s < 3; s++) h = next(h, asked.x().sign(s));
         return h.longValue();
+    }
+
+    private static void digestIsTheSum(String of, Supplier<IronCampaign> scene) {
+        Due.is("digest() of " + of, scene.get().digest(), sum(scene));
     }
 
     private static BigInteger next(BigInteger h, int v) {
@@ -79,24 +100,20 @@ public final class CountEdgesTest {
 
     /** "h = 199; then h = 31 h + v for each v": no CHARGES, no PIGS, SIGNS that none saw */
     private static void digestOfNothing() {
-        Due.is("digest() of a new object", new IronCampaign().digest(), sum(new IronCampaign()));
+        digestIsTheSum("a new object", IronCampaign::new);
     }
 
     /** "of CHARGES chargeAt(.., 0) to (.., 6); of PIGS pig(.., 0) to (.., 5)": all 400, all 60 */
     private static void digestOfTheMost() {
-        IronCampaign charges = Scenes.allCharges(5);
-        Due.is("digest() of 400 CHARGES", charges.digest(), sum(charges));
-        IronCampaign pigs = Scenes.allPigs(1);
-        Due.is("digest() of 60 PIGS", pigs.digest(), sum(pigs));
-        IronCampaign full = Scenes.fullColumn();
-        Due.is("digest() of a full COLUMN", full.digest(), sum(full));
+        digestIsTheSum("400 CHARGES", () -> Scenes.allCharges(5));
+        digestIsTheSum("60 PIGS", () -> Scenes.allPigs(1));
+        digestIsTheSum("a full COLUMN", Scenes::fullColumn);
     }
 
     /** "long digest()": 31 h goes round the end of a long */
     private static void digestWrapsAround() {
-        IronCampaign x = Scenes.busy();
-        Due.is("digest()", x.digest(), sum(x));
-        Due.is("digest() of OUT", Scenes.out().digest(), sum(Scenes.out()));
+        digestIsTheSum("a busy furnace", Scenes::busy);
+        digestIsTheSum("a furnace that is OUT", Scenes::out);
     }
 
     private static void told(String what, IronCampaign x, IronCampaign y) {

@@ -28,7 +28,9 @@ public final class FaceTest {
         constructor();
         nothingElseIsVisible();
         nestedClasses();
-        sourceKeepsToTheLanguage(Files.readString(Path.of("src/main/java/IronCampaign.java")));
+        String source = Files.readString(Path.of("src/main/java/IronCampaign.java"));
+        sourceKeepsToTheLanguage(source);
+        rowsAreMadeWithTheObject(source);
         Due.end();
     }
 
@@ -104,6 +106,16 @@ public final class FaceTest {
         }
         for (int i = 0; i < source.length(); i++) {
             if (source.charAt(i) > 126) Due.holds("plain characters at " + i, false);
+        }
+    }
+
+    // All calls of a run share one room, so a row is made as a field is, or in Table's constructor, and nowhere else.
+    private static void rowsAreMadeWithTheObject(String source) {
+        for (String line : source.split("\n")) {
+            String code = line.trim();
+            if (code.startsWith("/") || code.startsWith("*") || !code.contains("new ")) continue;
+            boolean field = code.matches("private final [\\w\\[\\]]+ \\w+ = new .*");
+            Due.holds("made with the object: " + code, field || code.startsWith("this.cells = new int["));
         }
     }
 }
